@@ -122,8 +122,8 @@ public final class Nocommaplane {
         if (places.sideOf(a, b, c) == 0) {
             throw new IllegalStateException("three POINTS in a line");
         }
-        mesh.lift();
-        mesh.through(a, b, c);
+        mesh.lift(a);
+        mesh.through(b, c);
         return mesh.at(d);
     }
 
@@ -143,12 +143,14 @@ public final class Nocommaplane {
     public String hullText(int what) throws IllegalArgumentException {
         needWhat(what, 1);
         begin();
+        swarm.findHull();
         swarm.writeHull(page, what);
         return page.toString();
     }
 
     public int flattest() {
         begin();
+        swarm.findHull();
         return swarm.findFlattest();
     }
 
@@ -167,6 +169,7 @@ public final class Nocommaplane {
     public String leastText(int what) throws IllegalArgumentException {
         needWhat(what, 1);
         begin();
+        swarm.findHolders();
         swarm.writeLeast(page, what);
         return page.toString();
     }
@@ -762,7 +765,7 @@ public final class Nocommaplane {
         for (int i = 0; i < page.length(); i++) {
             e = fed(e, page.charAt(i));
         }
-        begin();
+        page.setLength(0);
         return fed(e, 10);
     }
 
@@ -806,21 +809,17 @@ public final class Nocommaplane {
         long e = fed(d, bundle.count());
         e = fed(e, bundle.overlapCount());
         for (int i = 0; i < bundle.count(); i++) {
-            page.setLength(0);
             places.write(page, bundle.crossing(i));
-            for (int k = 0; k < page.length(); k++) {
-                e = fed(e, page.charAt(k));
-            }
-            e = fed(fed(e, 10), bundle.set(i));
+            e = fed(feedPage(e), bundle.set(i));
         }
         return e;
     }
 
     private long feedPolygons(long d) {
         long e = d;
-        begin();
         for (int p = 0; p < sheet.limit(POLYGONS); p++) {
             if (sheet.has(POLYGONS, p)) {
+                begin();
                 for (int what = 0; what <= 3; what++) {
                     e = fed(e, countOfPolygon(p, what));
                 }
@@ -839,7 +838,6 @@ public final class Nocommaplane {
         long e = fed(d, ring.size());
         ring.write(page, 0);
         e = feedPage(e);
-        ring.makeRoom();
         ring.write(page, 1);
         e = feedPage(e);
         return fed(e, ring.bars());
@@ -1163,7 +1161,7 @@ public final class Nocommaplane {
             }
         }
 
-        /** Room for a number of so many limbs, all of them 0. */
+        /** Room for a number of so many limbs; who asks for it writes them all. */
         private int fresh(int limbs) {
             int n = limbs > 0 ? limbs : 0;
             if (n >= MOST || top < 0 || top >= MOST - n) {
@@ -1181,7 +1179,6 @@ public final class Nocommaplane {
                 cells = Arrays.copyOf(cells, wide);
             }
             int h = top;
-            Arrays.fill(cells, h, end, 0);
             cells[h] = n;
             top = end;
             return h;
@@ -1220,6 +1217,11 @@ public final class Nocommaplane {
                 cells[h + 3] = (int) (m >>> 2 * BITS);
             }
             return strip(h, value < 0 ? -1 : 1);
+        }
+
+        /** Whether it has but one limb, or none. */
+        boolean isLimb(int h) {
+            return size(h) <= 1;
         }
 
         /** Whether it is so small that value() tells it. */
@@ -1270,7 +1272,7 @@ public final class Nocommaplane {
             int n = size(big);
             int m = size(low);
             int r = fresh(n + 1);
-            if (r < 0) {
+            if (r < 0 || r + n + 1 >= cells.length) {
                 return NOWHERE;
             }
             long carry = 0;
@@ -1286,8 +1288,11 @@ public final class Nocommaplane {
         int mul(int a, int b) {
             int n = size(a);
             int m = size(b);
+            if (n == 0 || m == 0) {
+                return fresh(0);
+            }
             int r = fresh(n + m);
-            if (r < 0) {
+            if (r < 0 || r + n + m >= cells.length) {
                 return NOWHERE;
             }
             for (int i = 1; i <= n; i++) {
@@ -1295,15 +1300,21 @@ public final class Nocommaplane {
                 long carry = 0;
                 int at = r + i;
                 for (int k = 1; k <= m; k++, at++) {
-                    long t = x * cells[b + k] + cells[at] + carry;
+                    long t = x * cells[b + k] + carry + (i > 1 ? cells[at] : 0);
                     cells[at] = (int) (t & MASK);
                     carry = t >>> BITS;
                 }
-                if (at < cells.length) {
-                    cells[at] = (int) carry;
-                }
+                cells[at] = (int) carry;
             }
             return strip(r, sign(a) * sign(b));
+        }
+
+        /** a * d - b * c. */
+        int minor(int a, int b, int c, int d) {
+            if (size(a) <= 1 && size(b) <= 1 && size(c) <= 1 && size(d) <= 1) {
+                return of(value(a) * value(d) - value(b) * value(c));
+            }
+            return add(mul(a, d), mul(b, c), -1);
         }
 
         /** By how many bits the highest limb can be shifted up within a limb. */
@@ -1422,7 +1433,7 @@ public final class Nocommaplane {
         private int copy(int h) {
             int n = size(h);
             int r = fresh(n);
-            if (r < 0) {
+            if (r < 0 || r + n >= cells.length) {
                 return NOWHERE;
             }
             for (int i = 1; i <= n; i++) {
@@ -1473,8 +1484,11 @@ public final class Nocommaplane {
             int n = size(h);
             int up = limbs > 0 ? limbs : 0;
             int r = fresh(n + up);
-            if (r < 0) {
+            if (r < 0 || r + n + up >= cells.length) {
                 return NOWHERE;
+            }
+            for (int i = 1; i <= up; i++) {
+                cells[r + i] = 0;
             }
             for (int i = 1; i <= n; i++) {
                 cells[r + up + i] = cells[h + i];
@@ -1620,7 +1634,8 @@ public final class Nocommaplane {
         private static final int POINT_LIMIT = 10;
         private static final int ROOM = 300;
         private static final int LINES = 40;
-        private static final int SMALL = 1 << 20;
+        private static final int SMALL = 1 << 30;
+        private static final int TINY = 1 << 20;
         private static final int FINEST = 1000000000;
         private static final int REACH = 50;
         private static final int NOTHING = 0;
@@ -1635,6 +1650,7 @@ public final class Nocommaplane {
         private final Row smallX = new Row(ROOM);
         private final Row smallY = new Row(ROOM);
         private final Row smallW = new Row(ROOM);
+        private final Row grade = new Row(ROOM);
         private final Row la = new Row(LINES);
         private final Row lb = new Row(LINES);
         private final Row lc = new Row(LINES);
@@ -1703,6 +1719,7 @@ public final class Nocommaplane {
             smallX.shorten(size);
             smallY.shorten(size);
             smallW.shorten(size);
+            grade.shorten(size);
         }
 
         int x(int i) {
@@ -1721,14 +1738,13 @@ public final class Nocommaplane {
             px.add(x);
             py.add(y);
             pw.add(w);
-            long sx = num.value(x);
-            long sy = num.value(y);
-            long sw = num.value(w);
-            boolean small = num.isShort(x) && num.isShort(y) && num.isShort(w)
-                && sx < SMALL && sx > -SMALL && sy < SMALL && sy > -SMALL && sw < SMALL;
-            smallX.add(small ? (int) sx : 0);
-            smallY.add(small ? (int) sy : 0);
-            smallW.add(small ? (int) sw : 0);
+            boolean isShort = num.isShort(x) && num.isShort(y) && num.isShort(w);
+            long size = Math.max(Math.abs(num.value(x)), Math.max(Math.abs(num.value(y)), num.value(w)));
+            boolean small = isShort && size < SMALL;
+            smallX.add(small ? (int) num.value(x) : 0);
+            smallY.add(small ? (int) num.value(y) : 0);
+            smallW.add(small ? (int) num.value(w) : 0);
+            grade.add(!small ? 0 : size < TINY ? 2 : 1);
             return px.size() - 1;
         }
 
@@ -1754,17 +1770,8 @@ public final class Nocommaplane {
             return first;
         }
 
-        private boolean isSmall(int i) {
-            return smallW.get(i) > 0;
-        }
-
-        /** a * d - b * c. */
-        int minor(int a, int b, int c, int d) {
-            return num.add(num.mul(a, d), num.mul(b, c), -1);
-        }
-
         int sideOf(int i, int j, int k) {
-            if (isSmall(i) && isSmall(j) && isSmall(k)) {
+            if (grade.get(i) > 1 && grade.get(j) > 1 && grade.get(k) > 1) {
                 return Long.signum(smallDeterminant(i, j, k));
             }
             int mark = num.mark();
@@ -1793,7 +1800,7 @@ public final class Nocommaplane {
         }
 
         private int compareParts(Row part, Row small, int i, int j) {
-            if (isSmall(i) && isSmall(j)) {
+            if (grade.get(i) > 0 && grade.get(j) > 0) {
                 return Long.compare((long) small.get(i) * smallW.get(j), (long) small.get(j) * smallW.get(i));
             }
             int mark = num.mark();
@@ -1831,16 +1838,16 @@ public final class Nocommaplane {
         /** The sign of the product of the ways from k to i and from k to j: -1 if their angle is above the right one. */
         int angle(int k, int i, int j) {
             int mark = num.mark();
-            int x = num.mul(minor(x(i), w(i), x(k), w(k)), minor(x(j), w(j), x(k), w(k)));
-            int y = num.mul(minor(y(i), w(i), y(k), w(k)), minor(y(j), w(j), y(k), w(k)));
+            int x = num.mul(num.minor(x(i), w(i), x(k), w(k)), num.minor(x(j), w(j), x(k), w(k)));
+            int y = num.mul(num.minor(y(i), w(i), y(k), w(k)), num.minor(y(j), w(j), y(k), w(k)));
             int s = num.sign(num.add(x, y, 1));
             num.release(mark);
             return s;
         }
 
         int squareOver(int i, int j) {
-            int x = minor(x(i), w(i), x(j), w(j));
-            int y = minor(y(i), w(i), y(j), w(j));
+            int x = num.minor(x(i), w(i), x(j), w(j));
+            int y = num.minor(y(i), w(i), y(j), w(j));
             return num.add(num.mul(x, x), num.mul(y, y), 1);
         }
 
@@ -1864,34 +1871,44 @@ public final class Nocommaplane {
 
         /** The line from i to j; what is left of it has the sign 1. */
         int line(int i, int j) {
-            return addLine(minor(y(i), w(i), y(j), w(j)), minor(w(i), x(i), w(j), x(j)),
-                minor(x(i), y(i), x(j), y(j)));
+            return addLine(num.minor(y(i), w(i), y(j), w(j)), num.minor(w(i), x(i), w(j), x(j)),
+                num.minor(x(i), y(i), x(j), y(j)));
         }
 
         /** The line of all places as far from i as from j; what is nearer to i has the sign 1. */
         int halfway(int i, int j) {
             int two = num.mul(num.of(2), num.mul(w(i), w(j)));
-            int a = num.mul(two, minor(x(i), w(i), x(j), w(j)));
-            int b = num.mul(two, minor(y(i), w(i), y(j), w(j)));
+            int a = num.mul(two, num.minor(x(i), w(i), x(j), w(j)));
+            int b = num.mul(two, num.minor(y(i), w(i), y(j), w(j)));
             int own = num.add(num.mul(x(i), x(i)), num.mul(y(i), y(i)), 1);
             int other = num.add(num.mul(x(j), x(j)), num.mul(y(j), y(j)), 1);
-            int c = minor(other, own, num.mul(w(j), w(j)), num.mul(w(i), w(i)));
+            int c = num.minor(other, own, num.mul(w(j), w(j)), num.mul(w(i), w(i)));
             return addLine(a, b, c);
         }
 
         int signAt(int line, int i) {
+            int a = la.get(line);
+            int b = lb.get(line);
+            int c = lc.get(line);
+            if (grade.get(i) > 0 && num.isLimb(a) && num.isLimb(b) && num.isLimb(c)) {
+                return smallSignAt(num.value(a), num.value(b), num.value(c), i);
+            }
             int mark = num.mark();
-            int ab = num.add(num.mul(la.get(line), x(i)), num.mul(lb.get(line), y(i)), 1);
-            int s = num.sign(num.add(ab, num.mul(lc.get(line), w(i)), 1));
+            int ab = num.add(num.mul(a, x(i)), num.mul(b, y(i)), 1);
+            int s = num.sign(num.add(ab, num.mul(c, w(i)), 1));
             num.release(mark);
             return s;
         }
 
+        private int smallSignAt(long a, long b, long c, int i) {
+            return Long.signum(a * smallX.get(i) + b * smallY.get(i) + c * smallW.get(i));
+        }
+
         /** The place where two lines cross that are not parallel. */
         int crossingOf(int k, int l) {
-            int x = minor(lb.get(k), lc.get(k), lb.get(l), lc.get(l));
-            int y = minor(lc.get(k), la.get(k), lc.get(l), la.get(l));
-            int w = minor(la.get(k), lb.get(k), la.get(l), lb.get(l));
+            int x = num.minor(lb.get(k), lc.get(k), lb.get(l), lc.get(l));
+            int y = num.minor(lc.get(k), la.get(k), lc.get(l), la.get(l));
+            int w = num.minor(la.get(k), lb.get(k), la.get(l), lb.get(l));
             if (num.sign(w) >= 0) {
                 return add(x, y, w);
             }
@@ -1991,7 +2008,7 @@ public final class Nocommaplane {
 
         /** Makes a sum of what a way from i to j adds to twice the AREA that is left of it. */
         void addArea(int i, int j) {
-            num.addToSum(minor(x(i), y(i), x(j), y(j)), num.mul(w(i), w(j)));
+            num.addToSum(num.minor(x(i), y(i), x(j), y(j)), num.mul(w(i), w(j)));
         }
 
         /** The sum of twice the AREA in a ring, which stands in the reckoner then. */
@@ -2023,8 +2040,8 @@ public final class Nocommaplane {
 
         /** The place to which i comes by the TURN by m and n about c. */
         int turned(int i, int c, int m, int n) {
-            int u = minor(x(i), w(i), x(c), w(c));
-            int v = minor(y(i), w(i), y(c), w(c));
+            int u = num.minor(x(i), w(i), x(c), w(c));
+            int v = num.minor(y(i), w(i), y(c), w(c));
             int cos = num.of(m * m - n * n);
             int sin = num.of(2 * m * n);
             int all = num.of(m * m + n * n);
@@ -2254,13 +2271,12 @@ public final class Nocommaplane {
         private final Row liftX = new Row(LIMIT);
         private final Row liftY = new Row(LIMIT);
         private final Row liftS = new Row(LIMIT);
-        private final Row liftW = new Row(LIMIT);
         private final Row found = new Row(MOST);
         private boolean known;
+        private int origin;
         private int cx;
         private int cy;
         private int cs;
-        private int cw;
 
         Mesh(Places places) {
             this.places = places;
@@ -2271,62 +2287,56 @@ public final class Nocommaplane {
             known = false;
         }
 
-        void lift() {
+        /**
+         * Takes a POINT as the origin, and tells of each other one, that is at (u / w, v / w) from there,
+         * u * w, v * w and u * u + v * v: a circle through the origin is a plane in these three.
+         */
+        void lift(int i) {
+            origin = i;
             liftX.clear();
             liftY.clear();
             liftS.clear();
-            liftW.clear();
-            for (int i = 0; i < LIMIT; i++) {
-                int x = places.x(i);
-                int y = places.y(i);
-                int w = places.w(i);
-                liftX.add(num.mul(x, w));
-                liftY.add(num.mul(y, w));
-                liftS.add(num.add(num.mul(x, x), num.mul(y, y), 1));
-                liftW.add(num.mul(w, w));
+            for (int d = 0; d < LIMIT; d++) {
+                int u = num.minor(places.x(d), places.w(d), places.x(i), places.w(i));
+                int v = num.minor(places.y(d), places.w(d), places.y(i), places.w(i));
+                int w = num.mul(places.w(d), places.w(i));
+                liftX.add(num.mul(u, w));
+                liftY.add(num.mul(v, w));
+                liftS.add(num.add(num.mul(u, u), num.mul(v, v), 1));
             }
         }
 
-        /** What stands at the places x, y, s, w of the circle through three POINTS: see at(). */
-        void through(int i, int j, int k) {
-            cx = lesserDeterminant(liftY, liftS, liftW, i, j, k);
-            cy = lesserDeterminant(liftX, liftS, liftW, i, j, k);
-            cs = lesserDeterminant(liftX, liftY, liftW, i, j, k);
-            cw = lesserDeterminant(liftX, liftY, liftS, i, j, k);
+        /** The circle through the origin and two other POINTS: cx * x + cy * y + cs * (x * x + y * y) = 0. */
+        void through(int j, int k) {
+            cx = num.minor(liftY.get(j), liftS.get(j), liftY.get(k), liftS.get(k));
+            cy = num.minor(liftS.get(j), liftX.get(j), liftS.get(k), liftX.get(k));
+            cs = num.minor(liftX.get(j), liftY.get(j), liftX.get(k), liftY.get(k));
         }
 
-        private int lesserDeterminant(Row a, Row b, Row c, int i, int j, int k) {
-            int one = num.mul(a.get(i), places.minor(b.get(j), c.get(j), b.get(k), c.get(k)));
-            int two = num.mul(b.get(i), places.minor(a.get(j), c.get(j), a.get(k), c.get(k)));
-            int three = num.mul(c.get(i), places.minor(a.get(j), b.get(j), a.get(k), b.get(k)));
-            return num.add(num.add(one, two, -1), three, 1);
-        }
-
-        /** CIRCLE of the three POINTS given to through() and of d. */
+        /** CIRCLE of the origin, the two POINTS given to through(), and d. */
         int at(int d) {
             int mark = num.mark();
-            int x = places.minor(cy, cx, liftX.get(d), liftY.get(d));
-            int s = places.minor(cw, cs, liftS.get(d), liftW.get(d));
-            int sign = num.sign(num.add(x, s, 1)) * num.sign(cs);
+            int xy = num.add(num.mul(cx, liftX.get(d)), num.mul(cy, liftY.get(d)), 1);
+            int sign = -num.sign(num.add(xy, num.mul(cs, liftS.get(d)), 1)) * num.sign(cs);
             num.release(mark);
             return sign;
         }
 
         void writeCentre(StringBuilder page) {
-            int flip = num.sign(cs) < 0 ? -1 : 1;
-            int under = num.mul(num.of(2 * flip), cs);
+            int flip = num.of(num.sign(cs) < 0 ? -1 : 1);
+            int twice = num.mul(num.of(2), num.mul(flip, cs));
+            int under = num.mul(twice, places.w(origin));
+            int w = num.mul(flip, places.w(origin));
             page.append('(');
-            num.writeFraction(page, num.mul(num.of(-flip), cx), under);
+            num.writeFraction(page, num.minor(twice, w, cx, places.x(origin)), under);
             page.append(',');
-            num.writeFraction(page, num.mul(num.of(flip), cy), under);
+            num.writeFraction(page, num.minor(twice, w, cy, places.y(origin)), under);
             page.append(')');
         }
 
         void writeRadius(StringBuilder page) {
-            int four = num.of(4);
             int squares = num.add(num.mul(cx, cx), num.mul(cy, cy), 1);
-            int over = num.add(squares, num.mul(four, num.mul(cs, cw)), 1);
-            num.writeFraction(page, over, num.mul(four, num.mul(cs, cs)));
+            num.writeFraction(page, squares, num.mul(num.of(4), num.mul(cs, cs)));
         }
 
         int count() {
@@ -2343,8 +2353,8 @@ public final class Nocommaplane {
 
         private void find() {
             found.clear();
-            lift();
             for (int i = 0; i < LIMIT; i++) {
+                lift(i);
                 for (int j = i + 1; j < LIMIT; j++) {
                     for (int k = j + 1; k < LIMIT; k++) {
                         if (isTriangle(i, j, k)) {
@@ -2355,12 +2365,13 @@ public final class Nocommaplane {
             }
         }
 
+        /** Whether they are a TRIANGLE; i must be the origin. */
         private boolean isTriangle(int i, int j, int k) {
             if (!places.hasPoint(i) || !places.hasPoint(j) || !places.hasPoint(k) || places.sideOf(i, j, k) == 0) {
                 return false;
             }
             int mark = num.mark();
-            through(i, j, k);
+            through(j, k);
             boolean empty = true;
             int rim = 0;
             for (int d = 0; d < LIMIT && empty; d++) {
@@ -2421,8 +2432,8 @@ public final class Nocommaplane {
 
         void writePaper(StringBuilder page) {
             count();
-            lift();
             for (int i = 0; i < LIMIT; i++) {
+                lift(i);
                 for (int j = i + 1; j < LIMIT; j++) {
                     int one = firstWith(i, j, 0);
                     int two = one == NONE ? NONE : firstWith(i, j, one + 1);
@@ -2435,7 +2446,7 @@ public final class Nocommaplane {
 
         private void writeFold(StringBuilder page, int i, int j, int one, int two) {
             int mark = num.mark();
-            through(i, j, one);
+            through(j, one);
             page.append(i).append(j).append(Math.min(one, two)).append(Math.max(one, two));
             page.append(at(two) == 0 ? '=' : '<');
             num.release(mark);
@@ -2444,11 +2455,14 @@ public final class Nocommaplane {
         /** Whether no POINT is within the circle of a TRIANGLE, and the numbers of all fit together. */
         boolean fits() {
             int count = count();
-            lift();
+            origin = NONE;
             for (int t = 0; t < count; t++) {
                 int triangle = found.get(t);
+                if (triangle / 100 != origin) {
+                    lift(triangle / 100);
+                }
                 int mark = num.mark();
-                through(triangle / 100, triangle / 10 % 10, triangle % 10);
+                through(triangle / 10 % 10, triangle % 10);
                 for (int d = 0; d < LIMIT; d++) {
                     if (places.hasPoint(d) && at(d) > 0) {
                         return false;
@@ -2473,6 +2487,10 @@ public final class Nocommaplane {
         private int flattest;
         private int widthOver;
         private int widthUnder;
+        private int farOver;
+        private int farUnder;
+        private int nearOver;
+        private int nearUnder;
 
         Swarm(Places places, Mesh mesh) {
             this.places = places;
@@ -2515,8 +2533,8 @@ public final class Nocommaplane {
             return hull.get(i);
         }
 
+        /** TEXT of AREA (what 0) or SQUARED WIDTH of the HULL, which must be found. */
         void writeHull(StringBuilder page, int what) {
-            findHull();
             if (what == 0) {
                 places.sumRing(hull);
                 places.writeHalfSum(page);
@@ -2526,8 +2544,8 @@ public final class Nocommaplane {
             }
         }
 
+        /** FLATTEST of the HULL, which must be found. */
         int findFlattest() {
-            findHull();
             findWidth();
             return flattest;
         }
@@ -2546,8 +2564,8 @@ public final class Nocommaplane {
                 int far = farthest(a, b);
                 int d = places.determinant(a, b, far);
                 int over = num.mul(d, d);
-                int x = places.minor(places.x(a), places.w(a), places.x(b), places.w(b));
-                int y = places.minor(places.y(a), places.w(a), places.y(b), places.w(b));
+                int x = num.minor(places.x(a), places.w(a), places.x(b), places.w(b));
+                int y = num.minor(places.y(a), places.w(a), places.y(b), places.w(b));
                 int squares = num.add(num.mul(x, x), num.mul(y, y), 1);
                 int under = num.mul(squares, num.mul(places.w(far), places.w(far)));
                 if (flattest == NONE || num.compare(num.mul(over, widthUnder), num.mul(widthOver, under)) < 0) {
@@ -2561,13 +2579,14 @@ public final class Nocommaplane {
         /** The CORNER of the HULL that is farthest from the line of two. */
         private int farthest(int a, int b) {
             int far = a;
+            int best = num.of(0);
             for (int i = 0; i < hull.size(); i++) {
                 int k = hull.get(i);
-                int mark = num.mark();
-                int own = num.mul(places.determinant(a, b, k), places.w(far));
-                int best = num.mul(places.determinant(a, b, far), places.w(k));
-                far = num.compare(own, best) > 0 ? k : far;
-                num.release(mark);
+                int own = places.determinant(a, b, k);
+                if (num.compare(num.mul(own, places.w(far)), num.mul(best, places.w(k))) > 0) {
+                    far = k;
+                    best = own;
+                }
             }
             return far;
         }
@@ -2579,41 +2598,43 @@ public final class Nocommaplane {
 
         void findPairs() {
             pairs.fill(4, NONE);
+            farOver = num.of(0);
+            farUnder = num.of(1);
+            nearOver = farOver;
+            nearUnder = farUnder;
             for (int i = 0; i < LIMIT; i++) {
                 for (int j = i + 1; j < LIMIT; j++) {
                     if (places.hasPoint(i) && places.hasPoint(j)) {
-                        takePair(0, i, j, 1);
-                        takePair(2, i, j, -1);
+                        weighPair(i, j);
                     }
                 }
             }
         }
 
-        private void takePair(int what, int i, int j, int wanted) {
-            int a = pairs.get(what);
-            int b = pairs.get(what + 1);
-            if (a == NONE || compareSquares(i, j, a, b) == wanted) {
-                pairs.set(what, i);
-                pairs.set(what + 1, j);
+        private void weighPair(int i, int j) {
+            int over = places.squareOver(i, j);
+            int under = places.squareUnder(i, j);
+            if (pairs.get(0) == NONE || num.compare(num.mul(over, farUnder), num.mul(farOver, under)) > 0) {
+                pairs.set(0, i);
+                pairs.set(1, j);
+                farOver = over;
+                farUnder = under;
+            }
+            if (pairs.get(2) == NONE || num.compare(num.mul(over, nearUnder), num.mul(nearOver, under)) < 0) {
+                pairs.set(2, i);
+                pairs.set(3, j);
+                nearOver = over;
+                nearUnder = under;
             }
         }
 
-        private int compareSquares(int i, int j, int a, int b) {
-            int mark = num.mark();
-            int own = num.mul(places.squareOver(i, j), places.squareUnder(a, b));
-            int other = num.mul(places.squareOver(a, b), places.squareUnder(i, j));
-            int c = num.compare(own, other);
-            num.release(mark);
-            return c;
-        }
-
-        /** Finds HOLDERS; answers their set. */
+        /** Finds HOLDERS, which are CORNERS of the HULL always; answers their set. */
         int findHolders() {
             holders.clear();
-            int set = places.sheet().setOf(POINTS);
-            if (Integer.bitCount(set) == 1) {
-                hold(lowest(set), NONE, NONE);
-            } else if (set != 0 && !findTwoHolders()) {
+            int corners = findHull();
+            if (corners == 1) {
+                hold(hull.get(0), NONE, NONE);
+            } else if (corners > 1 && !findTwoHolders()) {
                 findThreeHolders();
             }
             int found = 0;
@@ -2623,13 +2644,13 @@ public final class Nocommaplane {
             return found;
         }
 
-        private static int lowest(int set) {
-            for (int i = 0; i < LIMIT; i++) {
-                if ((set >> i & 1) == 1) {
-                    return i;
+        private boolean hasCorner(int k) {
+            for (int i = 0; i < hull.size(); i++) {
+                if (hull.get(i) == k) {
+                    return true;
                 }
             }
-            return NONE;
+            return false;
         }
 
         private void hold(int i, int j, int k) {
@@ -2646,7 +2667,7 @@ public final class Nocommaplane {
         private boolean findTwoHolders() {
             for (int i = 0; i < LIMIT; i++) {
                 for (int j = i + 1; j < LIMIT; j++) {
-                    if (places.hasPoint(i) && places.hasPoint(j) && twoHold(i, j)) {
+                    if (hasCorner(i) && hasCorner(j) && twoHold(i, j)) {
                         hold(i, j, NONE);
                         return true;
                     }
@@ -2657,8 +2678,9 @@ public final class Nocommaplane {
 
         /** Whether the circle with i and j opposite holds all: none sees them at less than the right angle. */
         private boolean twoHold(int i, int j) {
-            for (int k = 0; k < LIMIT; k++) {
-                if (k != i && k != j && places.hasPoint(k) && places.angle(k, i, j) > 0) {
+            for (int c = 0; c < hull.size(); c++) {
+                int k = hull.get(c);
+                if (k != i && k != j && places.angle(k, i, j) > 0) {
                     return false;
                 }
             }
@@ -2666,11 +2688,13 @@ public final class Nocommaplane {
         }
 
         private void findThreeHolders() {
-            mesh.lift();
             for (int i = 0; i < LIMIT; i++) {
+                if (hasCorner(i)) {
+                    mesh.lift(i);
+                }
                 for (int j = i + 1; j < LIMIT; j++) {
                     for (int k = j + 1; k < LIMIT; k++) {
-                        if (threeHold(i, j, k)) {
+                        if (hasCorner(i) && hasCorner(j) && hasCorner(k) && threeHold(i, j, k)) {
                             hold(i, j, k);
                             return;
                         }
@@ -2679,40 +2703,35 @@ public final class Nocommaplane {
             }
         }
 
+        /** Whether the circle through three CORNERS holds all, and their triangle is sharp; i must be the origin. */
         private boolean threeHold(int i, int j, int k) {
-            if (!places.hasPoint(i) || !places.hasPoint(j) || !places.hasPoint(k)
-                || places.angle(i, j, k) <= 0 || places.angle(j, i, k) <= 0 || places.angle(k, i, j) <= 0) {
+            if (places.angle(i, j, k) <= 0 || places.angle(j, i, k) <= 0 || places.angle(k, i, j) <= 0) {
                 return false;
             }
-            int mark = num.mark();
-            mesh.through(i, j, k);
-            boolean all = true;
-            for (int d = 0; d < LIMIT && all; d++) {
-                all = !places.hasPoint(d) || mesh.at(d) >= 0;
+            mesh.through(j, k);
+            for (int c = 0; c < hull.size(); c++) {
+                if (mesh.at(hull.get(c)) < 0) {
+                    return false;
+                }
             }
-            num.release(mark);
-            return all;
+            return true;
         }
 
-        /** TEXT of the centre of the LEAST CIRCLE (what 0) or of the square of its radius; "" without POINTS. */
+        /** TEXT of the centre of the LEAST CIRCLE (what 0) or of the square of its radius; HOLDERS must be found. */
         void writeLeast(StringBuilder page, int what) {
-            findHolders();
             int i = holders.get(0);
-            int j = holders.get(1);
+            int j = holders.size() > 1 ? holders.get(1) : i;
             if (holders.size() == 3) {
-                mesh.through(i, j, holders.get(2));
+                mesh.through(j, holders.get(2));
                 if (what == 0) {
                     mesh.writeCentre(page);
                 } else {
                     mesh.writeRadius(page);
                 }
+            } else if (holders.size() > 0 && what == 0) {
+                places.write(page, places.middle(i, j));
             } else if (holders.size() > 0) {
-                int k = j == NONE ? i : j;
-                if (what == 0) {
-                    places.write(page, places.middle(i, k));
-                } else {
-                    num.writeFraction(page, places.squareOver(i, k), num.mul(num.of(4), places.squareUnder(i, k)));
-                }
+                num.writeFraction(page, places.squareOver(i, j), num.mul(num.of(4), places.squareUnder(i, j)));
             }
         }
     }
@@ -3065,9 +3084,14 @@ public final class Nocommaplane {
             if (what == 3) {
                 return findOutline() ? 1 : 0;
             }
+            return countLeft(what);
+        }
+
+        /** How many places there are from which so many SHARDS or more lead away: one from each CORNER, two from a PINCH. */
+        private int countLeft(int least) {
             int found = 0;
             for (int i = 0; i < leaving.size(); i++) {
-                found += leaving.get(i) >= what ? 1 : 0;
+                found += leaving.get(i) >= least ? 1 : 0;
             }
             return found;
         }
@@ -3076,7 +3100,7 @@ public final class Nocommaplane {
         private boolean findOutline() {
             outline.clear();
             int count = shardFrom.size();
-            if (count == 0 || tell(2) > 0) {
+            if (count == 0 || countLeft(2) > 0) {
                 return false;
             }
             int start = shardFrom.get(0);
