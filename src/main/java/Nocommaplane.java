@@ -137,7 +137,7 @@ public final class Nocommaplane {
         if (i < 0 || i >= swarm.findHull()) {
             throw new IndexOutOfBoundsException("no such CORNER");
         }
-        return swarm.corner(i);
+        return swarm.cornerAt(i);
     }
 
     public String hullText(int what) throws IllegalArgumentException {
@@ -176,11 +176,13 @@ public final class Nocommaplane {
 
     public int triangles() {
         begin();
+        mesh.find();
         return mesh.count();
     }
 
     public int triangle(int t) throws IndexOutOfBoundsException {
         begin();
+        mesh.find();
         if (t < 0 || t >= mesh.count()) {
             throw new IndexOutOfBoundsException("no such TRIANGLE");
         }
@@ -189,11 +191,13 @@ public final class Nocommaplane {
 
     public int edges() {
         begin();
+        mesh.find();
         return mesh.countEdges();
     }
 
     public String paper() {
         begin();
+        mesh.find();
         mesh.writePaper(page);
         return page.toString();
     }
@@ -210,7 +214,7 @@ public final class Nocommaplane {
         needWhat(what, 1);
         begin();
         ring.makeRegion(k);
-        ring.write(page, what);
+        writeRing(what);
         return page.toString();
     }
 
@@ -346,23 +350,17 @@ public final class Nocommaplane {
         need(POLYGONS, p);
         needWhat(what, 3);
         begin();
+        enter(p);
         return countOfPolygon(p, what);
     }
 
+    /** The polygon must be entered. */
     private int countOfPolygon(int p, int what) {
         int count = cornerCount(p);
         if (what == 0) {
             return count;
         }
-        if (what == 1) {
-            enter(p);
-            int dents = 0;
-            for (int i = 0; i < count; i++) {
-                dents += ways.isDent(i) ? 1 : 0;
-            }
-            return dents;
-        }
-        return countWholePlaces(cornerPlace(p), count, what == 2);
+        return what == 1 ? ways.countDents() : countWholePlaces(cornerPlace(p), count, what == 2);
     }
 
     /** Of a polygon with whole corners the rim's places are told by its sides, those within by its AREA then. */
@@ -393,19 +391,13 @@ public final class Nocommaplane {
         int count = cornerCount(p);
         int first = loadPolygon(p);
         if (what == 0) {
-            sumPolygon(first, count);
+            num.startSum();
+            places.addPolygon(first, count);
             places.writeHalfSum(page);
             return;
         }
         for (int i = 0; i < count; i++) {
             places.write(page, first + i);
-        }
-    }
-
-    private void sumPolygon(int first, int count) {
-        num.startSum();
-        for (int i = 0; i < count; i++) {
-            places.addArea(first + i, i + 1 < count ? first + i + 1 : first);
         }
     }
 
@@ -453,13 +445,12 @@ public final class Nocommaplane {
         }
         begin();
         makeBlend(p, q, op);
-        keepOutline(k);
+        keepBlend(k, shards.draft());
         return k;
     }
 
     /** Makes a POLYGON of the BLEND that was found last. */
-    private int keepOutline(int p) {
-        int count = shards.draft();
+    private int keepBlend(int p, int count) {
         if (count == NONE) {
             throw new IllegalStateException("that is no POLYGON");
         }
@@ -473,7 +464,7 @@ public final class Nocommaplane {
         needCut(p, a, b);
         begin();
         makeCut(p, a, b);
-        return keepOutline(p);
+        return keepBlend(p, shards.draft());
     }
 
     public String cutArea(int p, int a, int b) throws IndexOutOfBoundsException, IllegalArgumentException {
@@ -585,8 +576,16 @@ public final class Nocommaplane {
         needWhat(what, 1);
         begin();
         ring.makeRoom();
-        ring.write(page, what);
+        writeRing(what);
         return page.toString();
+    }
+
+    private void writeRing(int what) {
+        if (what == 0) {
+            ring.writeArea(page);
+        } else {
+            places.writeRow(page, ring.corners());
+        }
     }
 
     public int barring() {
@@ -640,6 +639,7 @@ public final class Nocommaplane {
         needWithin(a);
         needWithin(b);
         ways.clearRoots();
+        ways.find(a, b);
         ways.addLength(a, b, 1);
         return ways.thousandfold();
     }
@@ -657,7 +657,9 @@ public final class Nocommaplane {
         needWithin(c);
         needWithin(d);
         ways.clearRoots();
+        ways.find(a, b);
         ways.addLength(a, b, 1);
+        ways.find(c, d);
         ways.addLength(c, d, -1);
         return ways.signOfRoots();
     }
@@ -688,26 +690,11 @@ public final class Nocommaplane {
     }
 
     public boolean isSound() {
-        return meshIsSound() && regionsAreSound() && piecesAreSound() && blendsAreSound();
-    }
-
-    private boolean meshIsSound() {
-        begin();
-        return mesh.fits();
-    }
-
-    private boolean regionsAreSound() {
-        begin();
-        return ring.fillBox();
-    }
-
-    private boolean piecesAreSound() {
-        begin();
-        return bundle.fits();
+        return mesh.fits() && ring.fillBox() && bundle.fits() && blendsFit();
     }
 
     /** Whether JOIN and MEET of the first two POLYGONS have their AREAS together. */
-    private boolean blendsAreSound() {
+    private boolean blendsFit() {
         int p = NONE;
         int q = NONE;
         for (int k = sheet.limit(POLYGONS) - 1; k >= 0; k--) {
@@ -730,10 +717,9 @@ public final class Nocommaplane {
         shards.sumArea();
         int meetOver = num.sumOver();
         int meetUnder = num.sumUnder();
-        sumPolygon(first, cornerCount(p));
-        for (int i = 0; i < cornerCount(q); i++) {
-            places.addArea(second + i, i + 1 < cornerCount(q) ? second + i + 1 : second);
-        }
+        num.startSum();
+        places.addPolygon(first, cornerCount(p));
+        places.addPolygon(second, cornerCount(q));
         int blends = num.add(num.mul(over, meetUnder), num.mul(meetOver, under), 1);
         int own = num.mul(num.mul(under, meetUnder), num.sumOver());
         return num.compare(num.mul(blends, num.sumUnder()), own) == 0;
@@ -744,14 +730,25 @@ public final class Nocommaplane {
         for (int what = 0; what <= 6; what++) {
             d = fed(d, plane(what));
         }
+        begin();
+        swarm.findHolders();
         d = feedPoints(d);
-        d = feedMesh(d);
+        begin();
+        mesh.find();
+        d = fed(d, mesh.count());
+        d = fed(d, mesh.countEdges());
+        mesh.writePaper(page);
+        d = feedPage(d);
+        begin();
+        bundle.find();
         d = feedPieces(d);
         d = feedPolygons(d);
         begin();
         d = fed(d, bundle.findFault());
+        begin();
         d = feedRoom(d);
-        boolean sound = meshIsSound() && regionsAreSound() && piecesAreSound() && blendsAreSound();
+        d = fed(d, ring.bars());
+        boolean sound = mesh.fits() && ring.fillBox() && bundle.fits() && blendsFit();
         return fed(d, sound ? 1 : 0);
     }
 
@@ -759,7 +756,7 @@ public final class Nocommaplane {
         return d * 31 + value;
     }
 
-    /** Feeds the digest with what stands on the page, and begins a new one. */
+    /** Feeds the digest with what stands on the page, and clears it. */
     private long feedPage(long d) {
         long e = d;
         for (int i = 0; i < page.length(); i++) {
@@ -771,14 +768,13 @@ public final class Nocommaplane {
 
     private long feedPoints(long d) {
         long e = d;
-        begin();
         for (int k = 0; k < sheet.limit(POINTS); k++) {
             if (sheet.has(POINTS, k)) {
                 places.write(page, k);
                 e = feedPage(e);
             }
         }
-        e = fed(e, swarm.findHull());
+        e = fed(e, swarm.countCorners());
         swarm.writeHull(page, 0);
         e = feedPage(e);
         swarm.writeHull(page, 1);
@@ -788,24 +784,14 @@ public final class Nocommaplane {
         for (int what = 0; what <= 3; what++) {
             e = fed(e, swarm.pair(what));
         }
-        e = fed(e, swarm.findHolders());
+        e = fed(e, swarm.holderSet());
         swarm.writeLeast(page, 0);
         e = feedPage(e);
         swarm.writeLeast(page, 1);
         return feedPage(e);
     }
 
-    private long feedMesh(long d) {
-        begin();
-        long e = fed(d, mesh.count());
-        e = fed(e, mesh.countEdges());
-        mesh.writePaper(page);
-        return feedPage(e);
-    }
-
     private long feedPieces(long d) {
-        begin();
-        bundle.find();
         long e = fed(d, bundle.count());
         e = fed(e, bundle.overlapCount());
         for (int i = 0; i < bundle.count(); i++) {
@@ -820,6 +806,7 @@ public final class Nocommaplane {
         for (int p = 0; p < sheet.limit(POLYGONS); p++) {
             if (sheet.has(POLYGONS, p)) {
                 begin();
+                enter(p);
                 for (int what = 0; what <= 3; what++) {
                     e = fed(e, countOfPolygon(p, what));
                 }
@@ -833,14 +820,12 @@ public final class Nocommaplane {
     }
 
     private long feedRoom(long d) {
-        begin();
         ring.makeRoom();
         long e = fed(d, ring.size());
-        ring.write(page, 0);
+        ring.writeArea(page);
         e = feedPage(e);
-        ring.write(page, 1);
-        e = feedPage(e);
-        return fed(e, ring.bars());
+        places.writeRow(page, ring.corners());
+        return feedPage(e);
     }
 
     /** Begins a call that looks at places or writes a text. */
@@ -1196,14 +1181,14 @@ public final class Nocommaplane {
             return h >= 0 && h < cells.length ? Integer.signum(cells[h]) : 0;
         }
 
-        /** Takes the limbs off that are 0 at the upper end, and puts the sign on. */
-        private int strip(int h, int sign) {
-            int n = size(h);
-            for (int i = 0; i < MOST && n > 0 && cells[h + n] == 0; i++) {
-                n--;
+        /** Takes the limbs off that are 0 at the upper end of a number of n limbs, and puts the sign on. */
+        private int strip(int h, int n, int sign) {
+            int left = n;
+            for (int i = 0; i < n && left > 0 && h >= 0 && h + left < cells.length && cells[h + left] == 0; i++) {
+                left--;
             }
             if (h >= 0 && h < cells.length) {
-                cells[h] = sign < 0 ? -n : n;
+                cells[h] = sign < 0 ? -left : left;
             }
             return h;
         }
@@ -1216,26 +1201,27 @@ public final class Nocommaplane {
                 cells[h + 2] = (int) (m >>> BITS & MASK);
                 cells[h + 3] = (int) (m >>> 2 * BITS);
             }
-            return strip(h, value < 0 ? -1 : 1);
+            return strip(h, 3, value < 0 ? -1 : 1);
         }
 
         /** Whether it has but one limb, or none. */
         boolean isLimb(int h) {
-            return size(h) <= 1;
+            return h >= 0 && h < cells.length && cells[h] >= -1 && cells[h] <= 1;
         }
 
         /** Whether it is so small that value() tells it. */
         boolean isShort(int h) {
-            return size(h) <= 2;
+            return h >= 0 && h < cells.length && cells[h] >= -2 && cells[h] <= 2;
         }
 
         long value(int h) {
-            int n = size(h);
-            if (n == 0 || n > 2) {
+            int n = h >= 0 && h < cells.length ? cells[h] : 0;
+            int limbs = n < 0 ? -n : n;
+            if (limbs < 1 || limbs > 2 || h + limbs >= cells.length) {
                 return 0;
             }
-            long v = cells[h + 1] + (n > 1 ? (long) cells[h + 2] << BITS : 0);
-            return sign(h) < 0 ? -v : v;
+            long v = cells[h + 1] + (limbs > 1 ? (long) cells[h + 2] << BITS : 0);
+            return n < 0 ? -v : v;
         }
 
         private int compareSize(int a, int b) {
@@ -1258,19 +1244,37 @@ public final class Nocommaplane {
             if (s != t) {
                 return s < t ? -1 : 1;
             }
-            return s * compareSize(a, b);
+            int n = size(a);
+            int m = size(b);
+            if (n != m) {
+                return n < m ? -s : s;
+            }
+            for (int i = n; i > 0; i--) {
+                if (cells[a + i] != cells[b + i]) {
+                    return cells[a + i] < cells[b + i] ? -s : s;
+                }
+            }
+            return 0;
         }
 
         /** a + b, or a - b if flip is -1. */
         int add(int a, int b, int flip) {
             int signA = sign(a);
             int signB = flip < 0 ? -sign(b) : sign(b);
-            boolean swap = compareSize(a, b) < 0;
+            int n = size(a);
+            int m = size(b);
+            boolean swap = n < m;
+            for (int i = n; i > 0 && n == m && cells[a + i] <= cells[b + i]; i--) {
+                if (cells[a + i] < cells[b + i]) {
+                    swap = true;
+                    break;
+                }
+            }
             int big = swap ? b : a;
             int low = swap ? a : b;
             long same = signA * signB < 0 ? -1 : 1;
-            int n = size(big);
-            int m = size(low);
+            n = size(big);
+            m = size(low);
             int r = fresh(n + 1);
             if (r < 0 || r + n + 1 >= cells.length) {
                 return NOWHERE;
@@ -1282,7 +1286,7 @@ public final class Nocommaplane {
                 carry = t >> BITS;
             }
             cells[r + n + 1] = (int) (carry & MASK);
-            return strip(r, swap ? signB : signA);
+            return strip(r, n + 1, swap ? signB : signA);
         }
 
         int mul(int a, int b) {
@@ -1306,7 +1310,7 @@ public final class Nocommaplane {
                 }
                 cells[at] = (int) carry;
             }
-            return strip(r, sign(a) * sign(b));
+            return strip(r, n + m, sign(a) * sign(b));
         }
 
         /** a * d - b * c. */
@@ -1317,19 +1321,21 @@ public final class Nocommaplane {
             return add(mul(a, d), mul(b, c), -1);
         }
 
-        /** By how many bits the highest limb can be shifted up within a limb. */
-        private int slack(int h) {
-            int n = size(h);
+        /** By how many bits a number of n limbs can be shifted up without one limb more. */
+        private int slack(int h, int n) {
             int bits = 0;
-            for (int i = 1; i < BITS && n > 0 && (long) cells[h + n] << i < BASE; i++) {
+            for (int i = 1; i < BITS && n > 0 && h >= 0 && h + n < cells.length
+                && (long) cells[h + n] << i < BASE; i++) {
                 bits = i;
             }
             return bits;
         }
 
-        private void shiftInto(int to, int from, int bits) {
-            int n = size(from);
-            int room = size(to);
+        /** Puts the n limbs of a number, shifted up, into one that has so much room. */
+        private void shiftInto(int to, int room, int from, int n, int bits) {
+            if (to < 0 || to + room >= cells.length || from < 0 || from + n >= cells.length) {
+                return;
+            }
             long carry = 0;
             for (int i = 1; i <= room; i++) {
                 long t = ((i <= n ? (long) cells[from + i] : 0) << bits) + carry;
@@ -1338,21 +1344,27 @@ public final class Nocommaplane {
             }
         }
 
-        private void shiftBack(int h, int bits) {
+        private void shiftBack(int h, int n, int bits) {
+            if (h < 0 || h + n >= cells.length) {
+                return;
+            }
             long low = (1L << bits) - 1;
             long carry = 0;
-            for (int i = size(h); i > 0; i--) {
+            for (int i = n; i > 0; i--) {
                 long t = (carry << BITS) + cells[h + i];
                 cells[h + i] = (int) (t >>> bits & MASK);
                 carry = t & low;
             }
         }
 
-        /** One digit of a division, as one does it on paper: guessed from the highest limbs, then mended. */
-        private void digit(int u, int v, int q, int j) {
-            int n = size(v);
+        /**
+         * One digit of a division by the n limbs of v, as one does it on paper: guessed from the highest
+         * limbs, then taken off u, and mended if that was one too many.
+         */
+        private void digit(int u, int v, int n, int q, int j) {
             int at = u + j;
-            if (n < 1 || j < 0 || u < 0 || q < 0 || at + n + 1 >= cells.length || q + 1 + j >= cells.length) {
+            if (n < 1 || j < 0 || u < 0 || v < 0 || q < 0
+                || at + n + 1 >= cells.length || v + n >= cells.length || q + 1 + j >= cells.length) {
                 return;
             }
             long high = cells[v + n];
@@ -1382,22 +1394,15 @@ public final class Nocommaplane {
             cells[at + n + 1] = (int) (end & MASK);
             if (end < 0) {
                 guess--;
-                addBack(at, v, n);
+                carry = 0;
+                for (int i = 1; i <= n; i++) {
+                    long t = (long) cells[at + i] + cells[v + i] + carry;
+                    cells[at + i] = (int) (t & MASK);
+                    carry = t >> BITS;
+                }
+                cells[at + n + 1] = (int) (cells[at + n + 1] + carry & MASK);
             }
             cells[q + 1 + j] = (int) guess;
-        }
-
-        private void addBack(int at, int v, int n) {
-            if (at < 0 || v < 0 || at + n + 1 >= cells.length || v + n >= cells.length) {
-                return;
-            }
-            long carry = 0;
-            for (int i = 1; i <= n; i++) {
-                long t = (long) cells[at + i] + cells[v + i] + carry;
-                cells[at + i] = (int) (t & MASK);
-                carry = t >> BITS;
-            }
-            cells[at + n + 1] = (int) (cells[at + n + 1] + carry & MASK);
         }
 
         /** a / b towards 0; what is left over stands in rest. (Of a division by 0: 0, and 0 is left.) */
@@ -1408,22 +1413,23 @@ public final class Nocommaplane {
                 rest = fresh(0);
                 return fresh(0);
             }
-            int bits = slack(b);
+            int bits = slack(b, n);
+            int digits = k >= n ? k - n + 1 : 0;
             int v = fresh(n);
             int u = fresh(k + 1);
-            int q = fresh(k >= n ? k - n + 1 : 0);
+            int q = fresh(digits);
             if (v < 0 || u < 0 || q < 0) {
                 rest = NOWHERE;
                 return NOWHERE;
             }
-            shiftInto(v, b, bits);
-            shiftInto(u, a, bits);
-            for (int j = k - n; j >= 0; j--) {
-                digit(u, v, q, j);
+            shiftInto(v, n, b, n, bits);
+            shiftInto(u, k + 1, a, k, bits);
+            for (int j = digits - 1; j >= 0; j--) {
+                digit(u, v, n, q, j);
             }
-            shiftBack(u, bits);
-            rest = strip(u, sign(a));
-            return strip(q, sign(a) * sign(b));
+            shiftBack(u, k + 1, bits);
+            rest = strip(u, k + 1, sign(a));
+            return strip(q, digits, sign(a) * sign(b));
         }
 
         int rest() {
@@ -1439,7 +1445,7 @@ public final class Nocommaplane {
             for (int i = 1; i <= n; i++) {
                 cells[r + i] = cells[h + i];
             }
-            return strip(r, sign(h));
+            return strip(r, n, sign(h));
         }
 
         /** Puts a number where another one begins that took no less room. */
@@ -1465,7 +1471,7 @@ public final class Nocommaplane {
             if (size(u) <= 2) {
                 return of(gcdOf(value(u), value(v)));
             }
-            return strip(u, 1);
+            return strip(u, size(u), 1);
         }
 
         static long gcdOf(long a, long b) {
@@ -1493,7 +1499,7 @@ public final class Nocommaplane {
             for (int i = 1; i <= n; i++) {
                 cells[r + up + i] = cells[h + i];
             }
-            return strip(r, sign(h));
+            return strip(r, n + up, sign(h));
         }
 
         /** The greatest whole number whose square is no greater than h (which is not below 0). */
@@ -1502,7 +1508,7 @@ public final class Nocommaplane {
                 return fresh(0);
             }
             int two = of(2);
-            int bits = (BITS * size(h) - slack(h) + 1) / 2;
+            int bits = (BITS * size(h) - slack(h, size(h)) + 1) / 2;
             int x = raise(of(1L << bits % BITS), bits / BITS);
             for (int i = 0; i < STEPS; i++) {
                 int mark = top;
@@ -1704,7 +1710,7 @@ public final class Nocommaplane {
             return px.size();
         }
 
-        /** Gives up the places from that number on, and all lines, but not the numbers that tell them. */
+        /** Gives up all lines and the places from that number on, but not the numbers that tell them. */
         void dropFrom(int size) {
             shorten(size);
             la.clear();
@@ -1712,7 +1718,7 @@ public final class Nocommaplane {
             lc.clear();
         }
 
-        private void shorten(int size) {
+        void shorten(int size) {
             px.shorten(size);
             py.shorten(size);
             pw.shorten(size);
@@ -1772,39 +1778,36 @@ public final class Nocommaplane {
 
         int sideOf(int i, int j, int k) {
             if (grade.get(i) > 1 && grade.get(j) > 1 && grade.get(k) > 1) {
-                return Long.signum(smallDeterminant(i, j, k));
+                return smallSide(i, j, k);
             }
             int mark = num.mark();
-            int s = num.sign(determinant(i, j, k));
+            int a = num.add(num.mul(y(j), w(k)), num.mul(w(j), y(k)), -1);
+            int b = num.add(num.mul(w(j), x(k)), num.mul(x(j), w(k)), -1);
+            int c = num.add(num.mul(x(j), y(k)), num.mul(y(j), x(k)), -1);
+            int ab = num.add(num.mul(x(i), a), num.mul(y(i), b), 1);
+            int s = num.sign(num.add(ab, num.mul(w(i), c), 1));
             num.release(mark);
             return s;
         }
 
-        private long smallDeterminant(int i, int j, int k) {
+        private int smallSide(int i, int j, int k) {
             long jx = smallX.get(j);
             long jy = smallY.get(j);
             long jw = smallW.get(j);
             long kx = smallX.get(k);
             long ky = smallY.get(k);
             long kw = smallW.get(k);
-            return smallX.get(i) * (jy * kw - jw * ky) + smallY.get(i) * (jw * kx - jx * kw)
-                + smallW.get(i) * (jx * ky - jy * kx);
+            return Long.signum(smallX.get(i) * (jy * kw - jw * ky) + smallY.get(i) * (jw * kx - jx * kw)
+                + smallW.get(i) * (jx * ky - jy * kx));
         }
 
-        int determinant(int i, int j, int k) {
-            int a = num.add(num.mul(y(j), w(k)), num.mul(w(j), y(k)), -1);
-            int b = num.add(num.mul(w(j), x(k)), num.mul(x(j), w(k)), -1);
-            int c = num.add(num.mul(x(j), y(k)), num.mul(y(j), x(k)), -1);
-            int ab = num.add(num.mul(x(i), a), num.mul(y(i), b), 1);
-            return num.add(ab, num.mul(w(i), c), 1);
-        }
-
-        private int compareParts(Row part, Row small, int i, int j) {
+        /** -1 if the place i is lower, 0 if both are as high. */
+        int compareHeight(int i, int j) {
             if (grade.get(i) > 0 && grade.get(j) > 0) {
-                return Long.compare((long) small.get(i) * smallW.get(j), (long) small.get(j) * smallW.get(i));
+                return Long.compare((long) smallY.get(i) * smallW.get(j), (long) smallY.get(j) * smallW.get(i));
             }
             int mark = num.mark();
-            int c = num.compare(num.mul(part.get(i), w(j)), num.mul(part.get(j), w(i)));
+            int c = num.compare(num.mul(y(i), w(j)), num.mul(y(j), w(i)));
             num.release(mark);
             return c;
         }
@@ -1814,16 +1817,22 @@ public final class Nocommaplane {
             if (i == j) {
                 return 0;
             }
-            int c = compareParts(px, smallX, i, j);
-            return c != 0 ? c : compareParts(py, smallY, i, j);
+            if (grade.get(i) > 0 && grade.get(j) > 0) {
+                int c = Long.compare((long) smallX.get(i) * smallW.get(j), (long) smallX.get(j) * smallW.get(i));
+                return c != 0 ? c
+                    : Long.compare((long) smallY.get(i) * smallW.get(j), (long) smallY.get(j) * smallW.get(i));
+            }
+            int mark = num.mark();
+            int c = num.compare(num.mul(x(i), w(j)), num.mul(x(j), w(i)));
+            if (c == 0) {
+                c = num.compare(num.mul(y(i), w(j)), num.mul(y(j), w(i)));
+            }
+            num.release(mark);
+            return c;
         }
 
         int lesser(int i, int j) {
             return compare(j, i) < 0 ? j : i;
-        }
-
-        int greater(int i, int j) {
-            return compare(j, i) < 0 ? i : j;
         }
 
         /** Whether k, that is in a line with both, is between i and j, or one of them. */
@@ -1832,7 +1841,7 @@ public final class Nocommaplane {
         }
 
         boolean isOn(int k, int i, int j) {
-            return sideOf(i, j, k) == 0 && isBetween(k, i, j);
+            return sideOf(i, j, k) == 0 && compare(i, k) * compare(k, j) >= 0;
         }
 
         /** The sign of the product of the ways from k to i and from k to j: -1 if their angle is above the right one. */
@@ -1891,17 +1900,19 @@ public final class Nocommaplane {
             int b = lb.get(line);
             int c = lc.get(line);
             if (grade.get(i) > 0 && num.isLimb(a) && num.isLimb(b) && num.isLimb(c)) {
-                return smallSignAt(num.value(a), num.value(b), num.value(c), i);
+                return Long.signum(num.value(a) * smallX.get(i) + num.value(b) * smallY.get(i)
+                    + num.value(c) * smallW.get(i));
             }
             int mark = num.mark();
-            int ab = num.add(num.mul(a, x(i)), num.mul(b, y(i)), 1);
-            int s = num.sign(num.add(ab, num.mul(c, w(i)), 1));
+            int s = num.sign(valueAt(line, i));
             num.release(mark);
             return s;
         }
 
-        private int smallSignAt(long a, long b, long c, int i) {
-            return Long.signum(a * smallX.get(i) + b * smallY.get(i) + c * smallW.get(i));
+        /** What a line makes of a place: its sign tells the side, its size tells how far away it is. */
+        int valueAt(int line, int i) {
+            int ab = num.add(num.mul(la.get(line), x(i)), num.mul(lb.get(line), y(i)), 1);
+            return num.add(ab, num.mul(lc.get(line), w(i)), 1);
         }
 
         /** The place where two lines cross that are not parallel. */
@@ -1946,8 +1957,14 @@ public final class Nocommaplane {
         }
 
         private int meetAlong(int a, int b, int c, int d) {
-            metFirst = greater(lesser(a, b), lesser(c, d));
-            metLast = lesser(greater(a, b), greater(c, d));
+            boolean forth = compare(a, b) < 0;
+            boolean along = compare(c, d) < 0;
+            int low = forth ? a : b;
+            int high = forth ? b : a;
+            int otherLow = along ? c : d;
+            int otherHigh = along ? d : c;
+            metFirst = compare(low, otherLow) < 0 ? otherLow : low;
+            metLast = compare(high, otherHigh) < 0 ? high : otherHigh;
             int order = compare(metFirst, metLast);
             if (order > 0) {
                 return NOTHING;
@@ -1970,11 +1987,11 @@ public final class Nocommaplane {
                 int a = first + i;
                 int b = i + 1 < count ? first + i + 1 : first;
                 int s = sideOf(a, b, k);
-                if (s == 0 && isBetween(k, a, b)) {
+                if (s == 0 && compare(a, k) * compare(k, b) >= 0) {
                     return 0;
                 }
-                boolean fromAbove = compareParts(py, smallY, a, k) > 0;
-                boolean toAbove = compareParts(py, smallY, b, k) > 0;
+                boolean fromAbove = compareHeight(a, k) > 0;
+                boolean toAbove = compareHeight(b, k) > 0;
                 if (fromAbove != toAbove && (toAbove ? s > 0 : s < 0)) {
                     within = !within;
                 }
@@ -2006,16 +2023,22 @@ public final class Nocommaplane {
             }
         }
 
-        /** Makes a sum of what a way from i to j adds to twice the AREA that is left of it. */
-        void addArea(int i, int j) {
-            num.addToSum(num.minor(x(i), y(i), x(j), y(j)), num.mul(w(i), w(j)));
-        }
-
         /** The sum of twice the AREA in a ring, which stands in the reckoner then. */
         void sumRing(Row row) {
             num.startSum();
             for (int i = 0; row.size() > 2 && i < row.size(); i++) {
-                addArea(row.get(i), row.after(i));
+                int a = row.get(i);
+                int b = row.after(i);
+                num.addToSum(num.minor(x(a), y(a), x(b), y(b)), num.mul(w(a), w(b)));
+            }
+        }
+
+        /** Adds the same of so many places from first on. */
+        void addPolygon(int first, int count) {
+            for (int i = 0; i < count && i < ROOM; i++) {
+                int a = first + i;
+                int b = i + 1 < count ? first + i + 1 : first;
+                num.addToSum(num.minor(x(a), y(a), x(b), y(b)), num.mul(w(a), w(b)));
             }
         }
 
@@ -2079,14 +2102,19 @@ public final class Nocommaplane {
         private static final int ROOM = 40;
 
         private final Places places;
+        private final Reckoner num;
         private final Row corners = new Row(ROOM);
         private final Row lines = new Row(ROOM);
         private final Row oldCorners = new Row(ROOM);
         private final Row oldLines = new Row(ROOM);
         private final Row signs = new Row(ROOM);
+        private final Row halves = new Row(ROOM);
+        private final Row boxCorners = new Row(ROOM);
+        private final Row boxLines = new Row(ROOM);
 
         Ring(Places places) {
             this.places = places;
+            this.num = places.num();
         }
 
         int size() {
@@ -2107,12 +2135,11 @@ public final class Nocommaplane {
         }
 
         private void addBoxCorner(int x, int y, int a, int b) {
-            Reckoner num = places.num();
             corners.add(places.add(num.of(x), num.of(y), num.of(1)));
             lines.add(places.addLine(num.of(a), num.of(b), num.of(REACH)));
         }
 
-        /** Takes all away that is right of the line. */
+        /** Takes all away that is right of the line. (A straight piece has one way from end to end, not two.) */
         private void clip(int line) {
             oldCorners.copy(corners);
             oldLines.copy(lines);
@@ -2124,21 +2151,16 @@ public final class Nocommaplane {
             corners.clear();
             lines.clear();
             for (int i = 0; i < count; i++) {
-                clipSide(i, line, count == 2 && i == 1);
-            }
-        }
-
-        /** What stays of a corner and of the way to the next one (a straight piece has but one such way). */
-        private void clipSide(int i, int line, boolean cornerOnly) {
-            int here = signs.get(i);
-            int next = signs.after(i);
-            if (here >= 0) {
-                corners.add(oldCorners.get(i));
-                lines.add(here == 0 && next < 0 ? line : oldLines.get(i));
-            }
-            if (here * next < 0 && !cornerOnly) {
-                corners.add(places.crossingOf(oldLines.get(i), line));
-                lines.add(here > 0 ? line : oldLines.get(i));
+                int here = signs.get(i);
+                int next = signs.after(i);
+                if (here >= 0) {
+                    corners.add(oldCorners.get(i));
+                    lines.add(here == 0 && next < 0 ? line : oldLines.get(i));
+                }
+                if (here * next < 0 && (count != 2 || i == 0)) {
+                    corners.add(places.crossingOf(oldLines.get(i), line));
+                    lines.add(here > 0 ? line : oldLines.get(i));
+                }
             }
         }
 
@@ -2160,20 +2182,27 @@ public final class Nocommaplane {
         }
 
         void makeRoom() {
+            loadHalves();
             makeBox();
-            Sheet sheet = places.sheet();
-            for (int k = 0; k < sheet.limit(HALVES); k++) {
-                clipByHalf(k);
+            for (int k = 0; k < halves.size(); k++) {
+                if (halves.get(k) != NONE) {
+                    clip(halves.get(k));
+                }
             }
             places.fromLeast(corners, oldCorners);
         }
 
-        private void clipByHalf(int k) {
+        private void loadHalves() {
             Sheet sheet = places.sheet();
-            if (sheet.has(HALVES, k)) {
-                int spot = sheet.spot(HALVES, k);
-                int a = places.load(spot + 1);
-                clip(places.line(a, places.load(spot + 5)));
+            halves.clear();
+            for (int k = 0; k < sheet.limit(HALVES); k++) {
+                int line = NONE;
+                if (sheet.has(HALVES, k)) {
+                    int spot = sheet.spot(HALVES, k);
+                    int a = places.load(spot + 1);
+                    line = places.line(a, places.load(spot + 5));
+                }
+                halves.add(line);
             }
         }
 
@@ -2183,25 +2212,18 @@ public final class Nocommaplane {
             if (size() > 0) {
                 return 0;
             }
-            int limit = places.sheet().limit(HALVES);
+            makeBox();
+            boxCorners.copy(corners);
+            boxLines.copy(lines);
+            int limit = halves.size();
             for (int most = 1; most <= 3; most++) {
                 for (int i = 0; i < limit; i++) {
-                    int set = barsFrom(i, limit, most);
-                    if (set != 0) {
-                        return set;
-                    }
-                }
-            }
-            return 0;
-        }
-
-        private int barsFrom(int i, int limit, int most) {
-            for (int j = i; j < limit; j++) {
-                for (int k = j; k < limit; k++) {
-                    int set = 1 << i | 1 << j | 1 << k;
-                    boolean told = most > 2 ? i < j && j < k : most > 1 ? i < j && j == k : i == k;
-                    if (told && bar(i, j, k)) {
-                        return set;
+                    for (int j = most > 1 ? i + 1 : i; j < (most > 1 ? limit : i + 1); j++) {
+                        for (int k = most > 2 ? j + 1 : j; k < (most > 2 ? limit : j + 1); k++) {
+                            if (bar(i, j, k)) {
+                                return 1 << i | 1 << j | 1 << k;
+                            }
+                        }
                     }
                 }
             }
@@ -2210,34 +2232,33 @@ public final class Nocommaplane {
 
         /** Whether these HALFPLANES (some may be the same) are there and leave nothing of the BOX. */
         private boolean bar(int i, int j, int k) {
-            Sheet sheet = places.sheet();
-            if (!sheet.has(HALVES, i) || !sheet.has(HALVES, j) || !sheet.has(HALVES, k)) {
+            if (halves.get(i) == NONE || halves.get(j) == NONE || halves.get(k) == NONE) {
                 return false;
             }
-            places.begin();
-            makeBox();
-            clipByHalf(i);
+            int mark = num.mark();
+            int count = places.size();
+            corners.copy(boxCorners);
+            lines.copy(boxLines);
+            clip(halves.get(i));
             if (j != i) {
-                clipByHalf(j);
+                clip(halves.get(j));
             }
             if (k != j) {
-                clipByHalf(k);
+                clip(halves.get(k));
             }
+            places.shorten(count);
+            num.release(mark);
             return size() == 0;
         }
 
-        void write(StringBuilder page, int what) {
-            if (what == 1) {
-                places.writeRow(page, corners);
-                return;
-            }
+        void writeArea(StringBuilder page) {
             places.sumRing(corners);
             places.writeHalfSum(page);
         }
 
         /** Whether all REGIONS together have the AREA of the BOX. */
         boolean fillBox() {
-            Reckoner num = places.num();
+            places.begin();
             num.startSum();
             int at = num.sumAt();
             int count = places.size();
@@ -2340,10 +2361,6 @@ public final class Nocommaplane {
         }
 
         int count() {
-            if (!known) {
-                known = true;
-                find();
-            }
             return found.size();
         }
 
@@ -2351,7 +2368,12 @@ public final class Nocommaplane {
             return found.get(t);
         }
 
-        private void find() {
+        /** Finds the TRIANGLES; the rest is asked after that. */
+        void find() {
+            if (known) {
+                return;
+            }
+            known = true;
             found.clear();
             for (int i = 0; i < LIMIT; i++) {
                 lift(i);
@@ -2422,7 +2444,7 @@ public final class Nocommaplane {
 
         /** The first TRIANGLE from t on that has i and j; NONE, if there is none. */
         private int firstWith(int i, int j, int t) {
-            for (int s = Math.max(t, 0); s < count(); s++) {
+            for (int s = Math.max(t, 0); s < found.size(); s++) {
                 if (third(s, i, j) != NONE) {
                     return s;
                 }
@@ -2431,7 +2453,6 @@ public final class Nocommaplane {
         }
 
         void writePaper(StringBuilder page) {
-            count();
             for (int i = 0; i < LIMIT; i++) {
                 lift(i);
                 for (int j = i + 1; j < LIMIT; j++) {
@@ -2454,7 +2475,9 @@ public final class Nocommaplane {
 
         /** Whether no POINT is within the circle of a TRIANGLE, and the numbers of all fit together. */
         boolean fits() {
-            int count = count();
+            places.begin();
+            find();
+            int count = found.size();
             origin = NONE;
             for (int t = 0; t < count; t++) {
                 int triangle = found.get(t);
@@ -2529,8 +2552,12 @@ public final class Nocommaplane {
             return next;
         }
 
-        int corner(int i) {
+        int cornerAt(int i) {
             return hull.get(i);
+        }
+
+        int countCorners() {
+            return hull.size();
         }
 
         /** TEXT of AREA (what 0) or SQUARED WIDTH of the HULL, which must be found. */
@@ -2561,8 +2588,9 @@ public final class Nocommaplane {
             for (int e = 0; e < hull.size(); e++) {
                 int a = hull.get(e);
                 int b = hull.after(e);
-                int far = farthest(a, b);
-                int d = places.determinant(a, b, far);
+                int line = places.line(a, b);
+                int far = farthest(line, a);
+                int d = places.valueAt(line, far);
                 int over = num.mul(d, d);
                 int x = num.minor(places.x(a), places.w(a), places.x(b), places.w(b));
                 int y = num.minor(places.y(a), places.w(a), places.y(b), places.w(b));
@@ -2576,13 +2604,13 @@ public final class Nocommaplane {
             }
         }
 
-        /** The CORNER of the HULL that is farthest from the line of two. */
-        private int farthest(int a, int b) {
+        /** The CORNER of the HULL that is farthest from a line through the CORNER a. */
+        private int farthest(int line, int a) {
             int far = a;
             int best = num.of(0);
             for (int i = 0; i < hull.size(); i++) {
                 int k = hull.get(i);
-                int own = places.determinant(a, b, k);
+                int own = places.valueAt(line, k);
                 if (num.compare(num.mul(own, places.w(far)), num.mul(best, places.w(k))) > 0) {
                     far = k;
                     best = own;
@@ -2637,11 +2665,15 @@ public final class Nocommaplane {
             } else if (corners > 1 && !findTwoHolders()) {
                 findThreeHolders();
             }
-            int found = 0;
+            return holderSet();
+        }
+
+        int holderSet() {
+            int set = 0;
             for (int i = 0; i < holders.size(); i++) {
-                found |= 1 << holders.get(i);
+                set |= 1 << holders.get(i);
             }
-            return found;
+            return set;
         }
 
         private boolean hasCorner(int k) {
@@ -2776,24 +2808,19 @@ public final class Nocommaplane {
             overLast.clear();
             for (int i = 0; i < LIMIT; i++) {
                 for (int j = i + 1; j < LIMIT; j++) {
-                    if (from.get(i) != NONE && from.get(j) != NONE) {
-                        findPair(i, j);
+                    int kind = from.get(i) == NONE || from.get(j) == NONE ? Places.NOTHING
+                        : places.meet(from.get(i), to.get(i), from.get(j), to.get(j));
+                    if (kind == Places.ONE_PLACE) {
+                        insert(places.metFirst());
+                    } else if (kind == Places.STRAIGHT) {
+                        overlaps.add(10 * i + j);
+                        overFirst.add(places.metFirst());
+                        overLast.add(places.metLast());
                     }
                 }
             }
             for (int t = 0; t < crossings.size(); t++) {
                 sets.add(through(crossings.get(t)));
-            }
-        }
-
-        private void findPair(int i, int j) {
-            int kind = places.meet(from.get(i), to.get(i), from.get(j), to.get(j));
-            if (kind == Places.STRAIGHT) {
-                overlaps.add(10 * i + j);
-                overFirst.add(places.metFirst());
-                overLast.add(places.metLast());
-            } else if (kind == Places.ONE_PLACE) {
-                insert(places.metFirst());
             }
         }
 
@@ -2845,6 +2872,7 @@ public final class Nocommaplane {
 
         /** Whether CROSSINGS and OVERLAPS are those of all pairs. */
         boolean fits() {
+            places.begin();
             find();
             int straight = 0;
             for (int i = 0; i < LIMIT; i++) {
@@ -2937,7 +2965,15 @@ public final class Nocommaplane {
             for (int i = 0; i < countQ; i++) {
                 addNode(firstQ + i);
             }
-            findMeetings();
+            for (int i = 0; i < countP; i++) {
+                int endP = i + 1 < countP ? firstP + i + 1 : firstP;
+                for (int j = 0; j < countQ; j++) {
+                    int endQ = j + 1 < countQ ? firstQ + j + 1 : firstQ;
+                    if (places.meet(firstP + i, endP, firstQ + j, endQ) == Places.ONE_PLACE) {
+                        addNode(places.metFirst());
+                    }
+                }
+            }
             for (int i = 0; i < countP; i++) {
                 cutSide(firstP + i, i + 1 < countP ? firstP + i + 1 : firstP, false);
             }
@@ -2969,18 +3005,6 @@ public final class Nocommaplane {
                 }
             }
             nodes.add(place);
-        }
-
-        private void findMeetings() {
-            for (int i = 0; i < countP; i++) {
-                int endP = i + 1 < countP ? firstP + i + 1 : firstP;
-                for (int j = 0; j < countQ; j++) {
-                    int endQ = j + 1 < countQ ? firstQ + j + 1 : firstQ;
-                    if (places.meet(firstP + i, endP, firstQ + j, endQ) == Places.ONE_PLACE) {
-                        addNode(places.metFirst());
-                    }
-                }
-            }
         }
 
         /** Cuts the side from a to b at all nodes on it, and adds its bits. */
@@ -3029,13 +3053,17 @@ public final class Nocommaplane {
             boolean rightP = p < 0;
             boolean leftQ = q > 0;
             boolean rightQ = q < 0;
-            if (p == 0) {
-                leftP = middleIsWithin(from, to, firstP, countP);
-                rightP = leftP;
-            }
-            if (q == 0) {
-                leftQ = middleIsWithin(from, to, firstQ, countQ);
-                rightQ = leftQ;
+            if (p == 0 || q == 0) {
+                int mark = places.num().mark();
+                int middle = places.middle(from, to);
+                boolean within = p == 0 ? places.position(firstP, countP, middle) > 0
+                    : places.position(firstQ, countQ, middle) > 0;
+                leftP = p == 0 ? within : leftP;
+                rightP = p == 0 ? within : rightP;
+                leftQ = q == 0 ? within : leftQ;
+                rightQ = q == 0 ? within : rightQ;
+                places.shorten(middle);
+                places.num().release(mark);
             }
             boolean left = counts(op, leftP, leftQ);
             if (left != counts(op, rightP, rightQ)) {
@@ -3055,15 +3083,6 @@ public final class Nocommaplane {
                 default:
                     return p != q;
             }
-        }
-
-        private boolean middleIsWithin(int from, int to, int first, int count) {
-            int mark = places.num().mark();
-            int size = places.size();
-            boolean within = places.position(first, count, places.middle(from, to)) > 0;
-            places.dropFrom(size);
-            places.num().release(mark);
-            return within;
         }
 
         private void findLeaving() {
@@ -3114,9 +3133,13 @@ public final class Nocommaplane {
 
         /** The sum of twice the AREA, which stands in the reckoner then. */
         void sumArea() {
-            places.num().startSum();
+            Reckoner num = places.num();
+            num.startSum();
             for (int s = 0; s < shardFrom.size(); s++) {
-                places.addArea(nodes.get(shardFrom.get(s)), nodes.get(shardTo.get(s)));
+                int a = nodes.get(shardFrom.get(s));
+                int b = nodes.get(shardTo.get(s));
+                int over = num.minor(places.x(a), places.y(a), places.x(b), places.y(b));
+                num.addToSum(over, num.mul(places.w(a), places.w(b)));
             }
         }
 
@@ -3173,6 +3196,7 @@ public final class Nocommaplane {
         private final Row signs = new Row(ROOTS);
         private int first;
         private int count;
+        private int dents;
 
         Ways(Places places) {
             this.places = places;
@@ -3183,6 +3207,18 @@ public final class Nocommaplane {
         void enter(int first, int count) {
             this.first = first;
             this.count = count;
+            dents = 0;
+            for (int i = 0; i < count && i < LIMIT; i++) {
+                dents |= places.sideOf(cornerBefore(i), first + i, cornerAfter(i)) < 0 ? 1 << i : 0;
+            }
+        }
+
+        int countDents() {
+            return Integer.bitCount(dents);
+        }
+
+        private boolean isDent(int i) {
+            return (dents >> i & 1) == 1;
         }
 
         /** Whether a place is in that polygon, its rim too. */
@@ -3204,32 +3240,31 @@ public final class Nocommaplane {
                 return true;
             }
             for (int i = 0; i < count && i < LIMIT; i++) {
-                if (isBarred(i, a, b)) {
+                int corner = first + i;
+                int at = places.sideOf(a, b, corner);
+                if (at == 0 && places.isBetween(corner, a, b)) {
+                    if (!opensTo(i, a) || !opensTo(i, b)) {
+                        return false;
+                    }
+                } else if (sideBars(i, at, a, b)) {
                     return false;
                 }
             }
             return true;
         }
 
-        /** Whether the side i, or the corner at its beginning, stands in the way from a to b. */
-        private boolean isBarred(int i, int a, int b) {
+        /** Whether the side i stands in the way from a to b, of which its beginning is on that side. */
+        private boolean sideBars(int i, int side, int a, int b) {
             int from = first + i;
             int to = cornerAfter(i);
             int atA = places.sideOf(from, to, a);
             int atB = places.sideOf(from, to, b);
-            int atFrom = places.sideOf(a, b, from);
-            if (atFrom == 0 && places.isBetween(from, a, b)) {
-                return !opensTo(i, a) || !opensTo(i, b);
-            }
             if (atA * atB < 0) {
-                return atFrom * places.sideOf(a, b, to) < 0;
+                return side * places.sideOf(a, b, to) < 0;
             }
-            return atB < 0 && isInside(a, atA, from, to) || atA < 0 && isInside(b, atB, from, to);
-        }
-
-        /** Whether k is on a side, but at none of its ends. */
-        private boolean isInside(int k, int side, int from, int to) {
-            return side == 0 && places.compare(from, k) * places.compare(k, to) > 0;
+            int end = atA == 0 ? a : b;
+            return (atA < 0 || atB < 0) && (atA == 0 || atB == 0)
+                && places.compare(from, end) * places.compare(end, to) > 0;
         }
 
         /** Whether the way from the corner i towards d begins in the polygon. */
@@ -3243,10 +3278,6 @@ public final class Nocommaplane {
             int in = places.sideOf(before, corner, d);
             int out = places.sideOf(corner, after, d);
             return isDent(i) ? in >= 0 || out >= 0 : in >= 0 && out >= 0;
-        }
-
-        boolean isDent(int i) {
-            return places.sideOf(cornerBefore(i), first + i, cornerAfter(i)) < 0;
         }
 
         /** Finds the BENDS of the WAY from a to b. */
@@ -3355,9 +3386,8 @@ public final class Nocommaplane {
             signs.clear();
         }
 
-        /** Adds the LENGTH of the WAY from a to b, as roots, or takes it off. */
+        /** Adds the LENGTH of the WAY from a to b that was found last, as roots, or takes it off. */
         void addLength(int a, int b, int sign) {
-            find(a, b);
             int here = a;
             for (int i = 0; i < bends.size(); i++) {
                 int bend = nodes.get(bends.get(i));
