@@ -1844,7 +1844,7 @@ public final class Nocommaplane {
             return sideOf(i, j, k) == 0 && compare(i, k) * compare(k, j) >= 0;
         }
 
-        /** The sign of the product of the ways from k to i and from k to j: -1 if their angle is above the right one. */
+        /** The sign of the product of the ways from k to i and to j: -1 if their angle is above the right one. */
         int angle(int k, int i, int j) {
             int mark = num.mark();
             int x = num.mul(num.minor(x(i), w(i), x(k), w(k)), num.minor(x(j), w(j), x(k), w(k)));
@@ -1927,7 +1927,7 @@ public final class Nocommaplane {
             return add(num.add(zero, x, -1), num.add(zero, y, -1), num.add(zero, w, -1));
         }
 
-        /** What the pieces from a to b and from c to d both hold: NOTHING, ONE_PLACE or STRAIGHT; see met... for it. */
+        /** What the pieces from a to b and from c to d both hold: NOTHING, ONE_PLACE or STRAIGHT. */
         int meet(int a, int b, int c, int d) {
             int atC = sideOf(a, b, c);
             int atD = sideOf(a, b, d);
@@ -3015,8 +3015,8 @@ public final class Nocommaplane {
                 int place = nodes.get(i);
                 if (places.isOn(place, a, b)) {
                     int at = 0;
-                    while (at < onSide.size() && places.compare(nodes.get(onSide.get(at)), place) == forward) {
-                        at++;
+                    for (int k = 0; k < onSide.size(); k++) {
+                        at += places.compare(nodes.get(onSide.get(k)), place) == forward ? 1 : 0;
                     }
                     onSide.insert(at, i);
                 }
@@ -3106,7 +3106,7 @@ public final class Nocommaplane {
             return countLeft(what);
         }
 
-        /** How many places there are from which so many SHARDS or more lead away: one from each CORNER, two from a PINCH. */
+        /** How many places have so many SHARDS or more that lead away: 1 tells CORNERS, 2 PINCHES. */
         private int countLeft(int least) {
             int found = 0;
             for (int i = 0; i < leaving.size(); i++) {
