@@ -1,5 +1,3 @@
-import java.util.Arrays;
-
 /**
  * A plane without a comma: POINTS, PIECES, POLYGONS and HALFPLANES at places that are told by whole
  * numbers and fractions; nothing is ever rounded. ../shared/DOC.md says what each call does.
@@ -1161,7 +1159,11 @@ public final class Nocommaplane {
                 return NOWHERE;
             }
             if (wide > cells.length) {
-                cells = Arrays.copyOf(cells, wide);
+                int[] wider = new int[wide];
+                for (int i = 0; i < cells.length && i < wide; i++) {
+                    wider[i] = cells[i];
+                }
+                cells = wider;
             }
             int h = top;
             cells[h] = n;
@@ -1178,7 +1180,8 @@ public final class Nocommaplane {
         }
 
         int sign(int h) {
-            return h >= 0 && h < cells.length ? Integer.signum(cells[h]) : 0;
+            int n = h >= 0 && h < cells.length ? cells[h] : 0;
+            return n > 0 ? 1 : n < 0 ? -1 : 0;
         }
 
         /** Takes the limbs off that are 0 at the upper end of a number of n limbs, and puts the sign on. */
@@ -1638,7 +1641,7 @@ public final class Nocommaplane {
      */
     private static final class Places {
         private static final int POINT_LIMIT = 10;
-        private static final int ROOM = 300;
+        private static final int ROOM = 360;
         private static final int LINES = 40;
         private static final int SMALL = 1 << 30;
         private static final int TINY = 1 << 20;
@@ -3330,7 +3333,7 @@ public final class Nocommaplane {
                     waiting.add(v);
                 }
             }
-            for (int t = 0; t < waiting.size(); t++) {
+            for (int t = 0; t < NODES * NODES && t < waiting.size(); t++) {
                 int step = waiting.get(t);
                 int u = step / Math.max(n, 1);
                 int v = step - u * n;
