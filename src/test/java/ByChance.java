@@ -11,7 +11,7 @@ import java.util.TreeMap;
  * one against that of the other. The runs are the same each time. Arguments: the first run and how many.
  */
 public final class ByChance {
-    private static final int RUNS = 160;
+    private static final int RUNS = 75;
     private static final int CALLS = 150;
     private static final int NONE = -1;
     private static final String[] OF_ALL = {
