@@ -11,7 +11,7 @@ import java.util.TreeMap;
  * one against that of the other. The runs are the same each time. Arguments: the first run and how many.
  */
 public final class ByChance {
-    private static final int RUNS = 75;
+    private static final int RUNS = 90;
     private static final int CALLS = 150;
     private static final int NONE = -1;
     private static final String[] OF_ALL = {
@@ -30,7 +30,8 @@ public final class ByChance {
         "crossings", "crossText i", "crossSet i", "overlaps", "overlapText i", "roomSize", "roomText w", "barring"};
     private static final String[] OF_WAYS = {
         "sees phh", "seen ph", "wayText phh", "wayText phh", "wayLength phh", "longer phhhh", "where pk", "ofPolygon pv"};
-    private static final String[][] ASKED = {OF_ALL, OF_SHAPES, OF_SWARM, OF_LINES, OF_WAYS};
+    private static final int FINE = 5;
+    private static final String[][] ASKED = {OF_ALL, OF_SHAPES, OF_SWARM, OF_LINES, OF_WAYS, OF_ALL};
 
     private final Random chance;
     private final List<String> told = new ArrayList<>();
@@ -68,18 +69,18 @@ public final class ByChance {
         plane = new Nocommaplane();
         second = new SecondPlane();
         int kind = run % ASKED.length;
-        int[] reaches = kind == 3 ? new int[] {2, 2, 3, 4} : kind == 4 ? new int[] {3, 4, 6} : new int[] {2, 3, 5, 9, 50};
+        int[] reaches = kind == 3 ? new int[] {2, 2, 3, 4} : kind >= 4 ? new int[] {3, 4, 6} : new int[] {2, 3, 5, 9, 50};
         reach = reaches[below(reaches.length)];
         finest = below(3) > 0 ? 1 : below(2) == 0 ? 12 : 3;
         boolean fine = true;
         for (int i = 0; i < 3 && fine; i++) {
-            fine = kind == 1 || kind == 4 ? drawPolygon() : putAny() && putAny() && (kind == 3 ? putInLine() : putAny());
+            fine = kind == 1 || kind >= 4 ? drawPolygon() : putAny() && putAny() && (kind == 3 ? putInLine() : putAny());
         }
         fine = fine && (kind < 4 || fill());
         while (told.size() < CALLS && fine) {
             fine = step(kind);
             for (int i = 0; i < (kind < 4 ? 3 : 8) && fine; i++) {
-                fine = ask(ASKED[kind]);
+                fine = ask(ASKED[kind == FINE ? below(FINE) : kind]);
             }
         }
         return fine && call("digest");
@@ -95,9 +96,29 @@ public final class ByChance {
                 return swarm();
             case 3:
                 return lines();
+            case FINE:
+                return fine();
             default:
                 return ways();
         }
+    }
+
+    /** Now and then all that can turn makes one TURN, so that what lay on a rim lies there still, ever finer. */
+    private boolean fine() throws IllegalAccessException {
+        if (below(3) > 0) {
+            return below(3) == 0 ? lines() : below(2) == 0 ? shapes() : ways();
+        }
+        int k = anyPoint();
+        int m = 1 + below(6);
+        int n = below(13) - 6;
+        boolean same = true;
+        for (int times = below(5); times >= 0 && same; times--) {
+            same = call("turn", k, m, n);
+            for (int p = 0; p < 4 && same; p++) {
+                same = call("swing", p, k, m, n);
+            }
+        }
+        return same;
     }
 
     private int below(int bound) {
@@ -133,7 +154,11 @@ public final class ByChance {
         return call("put", number(xd), xd, number(yd), yd);
     }
 
+    /** In the whole BOX most often tens, so that sides lie on its rim and in a line. */
     private int number(int under) {
+        if (reach == 50 && below(3) > 0) {
+            return 10 * under * (below(3) == 0 ? 10 * below(2) - 5 : below(11) - 5);
+        }
         int most = Math.abs(reach * under) + (below(30) == 0 ? 1 : 0);
         return below(8) == 0 ? most * (below(2) * 2 - 1) : below(2 * most + 1) - most;
     }

@@ -94,16 +94,21 @@ public final class FaceAndForm {
         for (Method method : Nocommaplane.class.getMethods()) {
             face.add(method.getName());
         }
-        for (Method method : Nocommaplane.class.getDeclaredMethods()) {
-            if (Modifier.isPrivate(method.getModifiers()) && face.contains(method.getName())) {
-                complain("a private method has the name " + method.getName());
-            }
-        }
+        checkPrivate(Nocommaplane.class, face);
         for (Class<?> part : inside) {
+            checkPrivate(part, face);
             checkFields(part);
             int shown = Modifier.PUBLIC | Modifier.PROTECTED;
             if ((part.getModifiers() & shown) != 0 || !Modifier.isStatic(part.getModifiers())) {
                 complain(part + " is shown, or not static");
+            }
+        }
+    }
+
+    private void checkPrivate(Class<?> part, TreeSet<String> face) {
+        for (Method method : part.getDeclaredMethods()) {
+            if (Modifier.isPrivate(method.getModifiers()) && face.contains(method.getName())) {
+                complain(part + ": a private method has the name " + method.getName());
             }
         }
     }
